@@ -361,7 +361,7 @@ public final class Wallplan {
         return one != null && one.storey == storey;
     }
 
-    // A trade with a higher number than the last one's is another trade and not a lower one.
+    // A higher number says both at once: another trade, and not one that goes ahead of the last.
     private static boolean losesAgainstLastChange(Element one, int trade, int base) {
         return one.changeRevision > base && trade > one.changeTrade;
     }

@@ -160,6 +160,11 @@ public final class AsksTest {
         stopped(plan, 2, true, false, true);
         plan.remove(0, 0, 3);
         stopped(plan, 2, false, false, false);
+        Wallplan two = new Wallplan();
+        two.add(1, 3, 0, 0, 5, 0);
+        two.add(2, 3, 5, 1, 5, 4);
+        two.clear(1, 2, 2);
+        stopped(two, 3, false, true, true);
     }
 
     private static void stopped(Wallplan plan, int storey, boolean walls, boolean pipes, boolean wires) {
@@ -184,6 +189,11 @@ public final class AsksTest {
         check.same("19: a part a cell", plan.parts(0), 6 + 6 + 4);
         plan.remove(0, 5, 1);
         check.same("19: not the REMOVED ones", plan.parts(0), 6 + 4);
+        plan.pass(5);
+        check.same("19: a DELIVERED one", plan.parts(0), 6 + 4);
+        plan.build(0);
+        check.same("19: a BUILT one", plan.parts(0), 6 + 4);
+        check.same("20: a BUILT one", plan.partsAnew(0), 6 + 4);
     }
 
     private static void partsAnewIsTheSame() {

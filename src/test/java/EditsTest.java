@@ -106,6 +106,9 @@ public final class EditsTest {
         check.refused("2: no storey ahead of a cell", some, INDEX, p -> p.add(0, 4, 12, 0, 0, 0));
         check.refused("2: a cell ahead of the lock", some, ARGUMENT, p -> p.add(0, 3, 12, 0, 0, 0));
         check.refused("2: no row ahead of the lock", some, ARGUMENT, p -> p.add(0, 3, 0, 0, 1, 1));
+        Wallplan full = new Wallplan();
+        forty(full);
+        check.same("2: the last of forty", full.elementOf(39, 7), 40);
         check.refused("2: there are 40", EditsTest::forty, STATE, p -> p.add(0, 1, 0, 0, 0, 0));
         check.refused("2: a cell ahead of the 40", EditsTest::forty, ARGUMENT, p -> p.add(0, 1, 0, 0, 0, 12));
         check.refused("2: a storey ahead of the 40", EditsTest::forty, INDEX, p -> p.add(0, 4, 0, 0, 0, 0));

@@ -176,8 +176,13 @@ public final class OrdersTest {
         check.same("10: BUILT it stays", plan.elementOf(0, 6), Wallplan.BUILT);
         Wallplan other = new Wallplan();
         clashing(other);
-        other.remove(2, 0, 1);
-        check.same("10: a REMOVED one is in no way", other.build(0), true);
+        other.lead(1, 0);
+        other.order(1);
+        check.same("10: the other one of the pair", other.build(1), false);
+        Wallplan fewer = new Wallplan();
+        clashing(fewer);
+        fewer.remove(2, 0, 1);
+        check.same("10: a REMOVED one is in no way", fewer.build(0), true);
     }
 
     private static void buildRefuses() {
@@ -246,6 +251,13 @@ public final class OrdersTest {
             p.add(2, 2, 11, 11, 11, 11);
             p.order(4);
             p.pass(5);
+        }, 2);
+        fails("the first of all that is DRAWN", p -> {
+            p.lead(0, 0);
+            p.add(0, 2, 11, 11, 11, 11);
+            p.add(0, 2, 0, 0, 5, 0);
+            p.order(1);
+            p.build(1);
         }, 2);
         fails("two that clash", p -> {
             finished(p);
