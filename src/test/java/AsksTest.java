@@ -46,7 +46,7 @@ public final class AsksTest {
 
     private static void elementOfTells() {
         Wallplan plan = new Wallplan();
-        EditsTest.someOfEach(plan);
+        Situations.someOfEach(plan);
         int[][] due = {
             {0, 0, 2, 2, 6, 2, Wallplan.ORDERED, 1, 0, 5},
             {1, 0, 11, 4, 11, 9, Wallplan.DRAWN, 2, 1, 6},
@@ -225,7 +225,7 @@ public final class AsksTest {
 
     private static void orderedCounts() {
         Wallplan plan = new Wallplan();
-        EditsTest.someOfEach(plan);
+        Situations.someOfEach(plan);
         check.same("21: an ORDERED wall", plan.ordered(0), 2);
         check.same("21: a DRAWN pipe and a REMOVED one", plan.ordered(1), 0);
         check.same("21: a DELIVERED wire and a BUILT one", plan.ordered(2), 1 + 4);
@@ -265,14 +265,14 @@ public final class AsksTest {
 
     private static void lockedStoreys() {
         Wallplan plan = new Wallplan();
-        EditsTest.someOfEach(plan);
+        Situations.someOfEach(plan);
         for (int storey = 0; storey < 4; storey++) {
             check.same("23: storey " + storey, plan.isLocked(storey), storey == 3);
         }
     }
 
     private static void asksRefuse() {
-        Consumer<Wallplan> some = EditsTest::someOfEach;
+        Consumer<Wallplan> some = Situations::someOfEach;
         for (int element : WRONG_ELEMENTS) {
             check.refused("15: element " + element, some, INDEX, p -> p.elementOf(element, 0));
             check.refused("15: element " + element + " ahead of what", some, INDEX, p -> p.elementOf(element, 10));
@@ -305,7 +305,7 @@ public final class AsksTest {
     }
 
     private static void asksChangeNothing() {
-        check.changesNothing("13 to 23: asking", EditsTest::someOfEach, p -> {
+        check.changesNothing("13 to 23: asking", Situations::someOfEach, p -> {
             p.day();
             p.revision();
             p.elementOf(0, 6);

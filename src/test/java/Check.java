@@ -1,8 +1,12 @@
+import java.util.IdentityHashMap;
+import java.util.Map;
 import java.util.function.Consumer;
 import java.util.function.Supplier;
 
 /** Compares answers with those that are due, tells each wrong one, and ends the test. */
 final class Check {
+    // What is asked behind a history is found once, as many calls are held against it.
+    private final Map<Consumer<Wallplan>, String> snapshots = new IdentityHashMap<>();
     private int checks = 0;
     private int wrong = 0;
 
@@ -16,19 +20,34 @@ final class Check {
 
     /** The call must throw just this exception and leave the object as the history made it. */
     void refused(String what, Consumer<Wallplan> history, Class<?> due, Consumer<Wallplan> call) {
-        Wallplan called = after(history);
-        same(what, outcome(() -> {
-            call.accept(called);
-            return "no exception";
-        }), due.getSimpleName());
-        same(what + ", and all that can be asked then", Snapshot.of(called), Snapshot.of(after(history)));
+        same(what, outcomeBehind(history, call), due.getSimpleName());
+        changesNothing(what, history, call);
     }
 
-    /** The call must leave the object as the history made it. */
+    /** The call must not throw. */
+    void allowed(String what, Consumer<Wallplan> history, Consumer<Wallplan> call) {
+        same(what, outcomeBehind(history, call), "no exception");
+    }
+
+    /** Whether the call throws or not, it must leave the object as the history made it. */
     void changesNothing(String what, Consumer<Wallplan> history, Consumer<Wallplan> call) {
-        Wallplan called = after(history);
-        call.accept(called);
-        same(what + " changes nothing", Snapshot.of(called), Snapshot.of(after(history)));
+        String due = snapshots.computeIfAbsent(history, h -> Snapshot.of(() -> behind(h)));
+        same(what + ", and what all calls answer then", Snapshot.of(() -> {
+            Wallplan plan = behind(history);
+            outcomeOf(plan, call);
+            return plan;
+        }), due);
+    }
+
+    private static Object outcomeBehind(Consumer<Wallplan> history, Consumer<Wallplan> call) {
+        return outcomeOf(behind(history), call);
+    }
+
+    private static Object outcomeOf(Wallplan plan, Consumer<Wallplan> call) {
+        return outcome(() -> {
+            call.accept(plan);
+            return "no exception";
+        });
     }
 
     /** What a call answers, or the name of the exception that it throws. */
@@ -40,7 +59,7 @@ final class Check {
         }
     }
 
-    private static Wallplan after(Consumer<Wallplan> history) {
+    static Wallplan behind(Consumer<Wallplan> history) {
         Wallplan plan = new Wallplan();
         history.accept(plan);
         return plan;

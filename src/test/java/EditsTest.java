@@ -21,26 +21,6 @@ public final class EditsTest {
         check.finish("EditsTest");
     }
 
-    /** Element 0 is ORDERED, 1 DRAWN, 2 BUILT, 3 REMOVED, 4 DELIVERED; storey 3 is locked with 2. */
-    static void someOfEach(Wallplan plan) {
-        plan.add(0, 0, 2, 2, 6, 2);
-        plan.add(1, 0, 11, 4, 11, 9);
-        plan.add(2, 3, 0, 0, 0, 11);
-        plan.add(1, 0, 5, 5, 5, 5);
-        plan.add(2, 0, 1, 7, 3, 7);
-        plan.remove(1, 4, 3);
-        plan.lead(2, 0);
-        plan.order(2);
-        plan.build(2);
-        plan.inspect(3);
-        plan.order(4);
-        plan.order(0);
-        plan.pass(3);
-        plan.clear(0, 1, 2);
-        plan.clear(1, 2, 3);
-        plan.part(1, 4);
-    }
-
     private static void newObject() {
         Wallplan plan = new Wallplan();
         check.same("1: the day", plan.day(), 0);
@@ -83,7 +63,7 @@ public final class EditsTest {
     }
 
     private static void addRefuses() {
-        Consumer<Wallplan> some = EditsTest::someOfEach;
+        Consumer<Wallplan> some = Situations::someOfEach;
         int[] wrongTrades = {-1, 3, Integer.MIN_VALUE, Integer.MAX_VALUE};
         for (int trade : wrongTrades) {
             check.refused("2: trade " + trade, some, INDEX, p -> p.add(trade, 0, 0, 0, 0, 0));
@@ -117,7 +97,7 @@ public final class EditsTest {
     /** Forty elements, one of them REMOVED: that one is still an element. */
     private static void forty(Wallplan plan) {
         for (int number = 0; number < 40; number++) {
-            check.same("2: one of forty", plan.add(number % 3, number % 4, number % 12, 3, number % 12, 7), number);
+            plan.add(number % 3, number % 4, number % 12, 3, number % 12, 7);
         }
         plan.remove(0, 40, 17);
     }
@@ -182,7 +162,7 @@ public final class EditsTest {
     }
 
     private static void moveRefuses() {
-        Consumer<Wallplan> some = EditsTest::someOfEach;
+        Consumer<Wallplan> some = Situations::someOfEach;
         int[] wrongTrades = {-1, 3, Integer.MIN_VALUE, Integer.MAX_VALUE};
         for (int trade : wrongTrades) {
             check.refused("3: trade " + trade, some, INDEX, p -> p.move(trade, 0, 1, 0, 0));
@@ -234,7 +214,7 @@ public final class EditsTest {
     }
 
     private static void removeRefuses() {
-        Consumer<Wallplan> some = EditsTest::someOfEach;
+        Consumer<Wallplan> some = Situations::someOfEach;
         int[] wrongTrades = {-1, 3, Integer.MIN_VALUE, Integer.MAX_VALUE};
         for (int trade : wrongTrades) {
             check.refused("4: trade " + trade, some, INDEX, p -> p.remove(trade, 0, 1));
@@ -276,7 +256,7 @@ public final class EditsTest {
     }
 
     private static void clearRefuses() {
-        Consumer<Wallplan> some = EditsTest::someOfEach;
+        Consumer<Wallplan> some = Situations::someOfEach;
         int[] wrongKinds = {-1, 3, Integer.MIN_VALUE, Integer.MAX_VALUE};
         for (int kind : wrongKinds) {
             check.refused("5: kind " + kind, some, INDEX, p -> p.clear(kind, 0, 1));

@@ -51,7 +51,7 @@ public final class OrdersTest {
     }
 
     private static void settingsRefuse() {
-        Consumer<Wallplan> some = EditsTest::someOfEach;
+        Consumer<Wallplan> some = Situations::someOfEach;
         for (int kind : WRONG_KINDS) {
             check.refused("6: kind " + kind, some, INDEX, p -> p.part(kind, 2));
             check.refused("6: kind " + kind + " ahead of cells", some, INDEX, p -> p.part(kind, 0));
@@ -106,7 +106,7 @@ public final class OrdersTest {
     }
 
     private static void orderRefuses() {
-        Consumer<Wallplan> some = EditsTest::someOfEach;
+        Consumer<Wallplan> some = Situations::someOfEach;
         for (int element : WRONG_ELEMENTS) {
             check.refused("8: element " + element, some, INDEX, p -> p.order(element));
         }
@@ -140,7 +140,7 @@ public final class OrdersTest {
     }
 
     private static void cancelRefuses() {
-        Consumer<Wallplan> some = EditsTest::someOfEach;
+        Consumer<Wallplan> some = Situations::someOfEach;
         for (int element : WRONG_ELEMENTS) {
             check.refused("9: element " + element, some, INDEX, p -> p.cancel(element));
         }
@@ -186,7 +186,7 @@ public final class OrdersTest {
     }
 
     private static void buildRefuses() {
-        Consumer<Wallplan> some = EditsTest::someOfEach;
+        Consumer<Wallplan> some = Situations::someOfEach;
         for (int element : WRONG_ELEMENTS) {
             check.refused("10: element " + element, some, INDEX, p -> p.build(element));
         }
@@ -272,7 +272,7 @@ public final class OrdersTest {
     }
 
     private static void inspectRefuses() {
-        Consumer<Wallplan> some = EditsTest::someOfEach;
+        Consumer<Wallplan> some = Situations::someOfEach;
         int[] wrongStoreys = {-1, 4, Integer.MIN_VALUE, Integer.MAX_VALUE};
         for (int storey : wrongStoreys) {
             check.refused("11: storey " + storey, some, INDEX, p -> p.inspect(storey));
@@ -311,7 +311,7 @@ public final class OrdersTest {
     }
 
     private static void passRefuses() {
-        Consumer<Wallplan> some = EditsTest::someOfEach;
+        Consumer<Wallplan> some = Situations::someOfEach;
         int[] wrongDays = {-1, 0, 101, Integer.MIN_VALUE, Integer.MAX_VALUE};
         for (int days : wrongDays) {
             check.refused("12: days " + days, some, ARGUMENT, p -> p.pass(days));

@@ -60,7 +60,7 @@ public final class RandomRunsTest {
             int[] a = arguments(random, name, model, storeys, longestPass);
             Object due = model.call(name, a);
             String what = "run " + run + ", call " + call + ": " + name + Arrays.toString(a);
-            check.same(what, answer(plan, name, a), due);
+            check.same(what, Calls.answer(plan, name, a), due);
             outcomes.add(name + " " + outcomeOf(name, due));
         }
     }
@@ -83,7 +83,7 @@ public final class RandomRunsTest {
             case "remove": drawn = new int[] {kind, base(random, model), item}; break;
             case "clear": drawn = new int[] {kind, random.nextInt(3), Math.max(0, random.nextInt(6) - 2)}; break;
             case "part": drawn = new int[] {kind, 1 + random.nextInt(12)}; break;
-            case "lead": drawn = new int[] {kind, random.nextInt(3) > 0 ? random.nextInt(6) : random.nextInt(101)}; break;
+            case "lead": drawn = new int[] {kind, random.nextInt(random.nextInt(3) > 0 ? 6 : 101)}; break;
             case "pass": drawn = new int[] {1 + random.nextInt(longestPass)}; break;
             case "elementOf": drawn = new int[] {item, random.nextInt(10)}; break;
             case "clash": drawn = new int[] {item, item(random, model)}; break;
@@ -121,41 +121,5 @@ public final class RandomRunsTest {
         int to = random.nextInt(12);
         boolean alongX = random.nextBoolean();
         return new int[] {kind, storey, x, y, alongX ? to : x, alongX ? y : to};
-    }
-
-    private static Object answer(Wallplan plan, String name, int[] a) {
-        Object answer = Check.outcome(() -> called(plan, name, a));
-        if (answer instanceof Boolean) {
-            return (Boolean) answer ? 1L : 0L;
-        }
-        return answer instanceof Integer ? (Object) ((Integer) answer).longValue() : answer;
-    }
-
-    private static Object called(Wallplan plan, String name, int[] a) {
-        switch (name) {
-            case "add": return plan.add(a[0], a[1], a[2], a[3], a[4], a[5]);
-            case "move": return plan.move(a[0], a[1], a[2], a[3], a[4]);
-            case "remove": return plan.remove(a[0], a[1], a[2]);
-            case "clear": return plan.clear(a[0], a[1], a[2]);
-            case "part": return plan.part(a[0], a[1]);
-            case "lead": return plan.lead(a[0], a[1]);
-            case "order": return plan.order(a[0]);
-            case "cancel": return plan.cancel(a[0]);
-            case "build": return plan.build(a[0]);
-            case "inspect": return plan.inspect(a[0]);
-            case "pass": return plan.pass(a[0]);
-            case "day": return plan.day();
-            case "revision": return plan.revision();
-            case "elementOf": return plan.elementOf(a[0], a[1]);
-            case "clash": return plan.clash(a[0], a[1]);
-            case "clashes": return plan.clashes(a[0]);
-            case "isStopped": return plan.isStopped(a[0], a[1]);
-            case "parts": return plan.parts(a[0]);
-            case "partsAnew": return plan.partsAnew(a[0]);
-            case "ordered": return plan.ordered(a[0]);
-            case "kindsAt": return plan.kindsAt(a[0], a[1], a[2]);
-            case "isLocked": return plan.isLocked(a[0]);
-            default: throw new AssertionError(name);
-        }
     }
 }
