@@ -7,6 +7,8 @@ import java.util.function.Supplier;
  */
 final class Snapshot {
     private static final int ELEMENTS_AT_ONCE = 8;
+    // More than there can be, so that a wrong one is seen, and a program without an end of them too.
+    private static final int MOST_ASKED_FOR = 48;
 
     private final Supplier<Wallplan> made;
     private final StringBuilder text = new StringBuilder();
@@ -44,7 +46,7 @@ final class Snapshot {
 
     private static int countElements(Wallplan plan) {
         int count = 0;
-        while (isElement(plan, count)) {
+        while (count < MOST_ASKED_FOR && isElement(plan, count)) {
             count++;
         }
         return count;

@@ -1,9 +1,9 @@
 import java.util.function.Consumer;
 
 /**
- * The sentences under 'Terms' of the document on days, the house and edits, each with a test of its own: the
- * last value on this side of the boundary that it names, and the first on the other side. Each test
- * stands below its sentence.
+ * The sentences under 'Terms' of the document on days, the house and edits, each with a test of its
+ * own: the last value on this side of the boundary that it names, and the first on the other side.
+ * Each test stands below its sentence.
  */
 public final class TermsOfEditsTest {
     private static final String INDEX = "IndexOutOfBoundsException";
@@ -364,7 +364,7 @@ public final class TermsOfEditsTest {
             int last = now;
             Consumer<Wallplan> then = plan -> {
                 plan.add(0, 0, 5, 5, 5, 5);
-                while (plan.revision() < last) {
+                for (int revision = 2; revision <= last; revision++) {
                     plan.move(0, 0, 0, 0, 0);
                 }
             };

@@ -1,9 +1,9 @@
 import java.util.function.Consumer;
 
 /**
- * The sentences under 'Terms' of the document on parts, orders and inspections, each with a test of its own: the
- * last value on this side of the boundary that it names, and the first on the other side. Each test
- * stands below its sentence.
+ * The sentences under 'Terms' of the document on parts, orders and inspections, each with a test of its
+ * own: the last value on this side of the boundary that it names, and the first on the other side.
+ * Each test stands below its sentence.
  */
 public final class TermsOfOrdersTest {
     private static final String INDEX = "IndexOutOfBoundsException";
